@@ -89,7 +89,8 @@ public final class BeginTest {
     }
 
     private static void beginAgain() {
-        for (String version : new String[] {"", "9P200", "9p2000", "x9P2000", "unknown", "9P20000"}) {
+        for (String version : new String[] {"", "9P200", "9p2000", "x9P2000", "xP2000",
+            "9P2001", "unknown", "9P20000"}) {
             Client client = Client.attached();
             boolean begun = version.equals("9P20000");
             client.reply(Message.begin(70, version),

@@ -192,5 +192,8 @@ public final class OpenCreateTest {
         client.error(Message.create(1, "z", 7, 0), 'l');
         client.error(Message.create(1, "z", Client.DIR, 1), 'd');
         Check.same("version of the root", client.yard().about(0, 1), 39);
+        client.remove("bn");
+        Check.same("the last is gone", client.yard().about(39, 4), 1);
+        client.error(Message.create(1, "z", 7, 0), 'l');
     }
 }

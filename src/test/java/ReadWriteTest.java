@@ -8,6 +8,8 @@ public final class ReadWriteTest {
         listing();
         listingTheRoot();
         listingAfterChanges();
+        listingBeginsWhenOpened();
+        listingAll();
         smallFrames();
         Check.end();
     }
@@ -175,5 +177,46 @@ public final class ReadWriteTest {
         client.reply(Message.read(2, 0, 54), told(31).stat(false, 0, 2, 6, 0, "ab"));
         client.reply(Message.read(2, 0, 62), told(31).stat(false, 0, 2, 6, 0, "ab"));
         client.reply(Message.read(2, 31, 62), told(31).stat(false, 0, 3, 6, 0, "ac"));
+        for (int most = 72; most <= 73; most++) {
+            client.done(Message.begin(most, "9P2000"));
+            client.done(Message.attach(1));
+            client.done(Message.walk(1, 2, "d"));
+            client.done(Message.open(2, 0));
+            Message due = told(most == 72 ? 31 : 62).stat(false, 0, 2, 6, 0, "ab");
+            client.reply(Message.read(2, 0, 4294967295L),
+                    most == 72 ? due : due.stat(false, 0, 3, 6, 0, "ac"));
+        }
+    }
+
+    private static void listingBeginsWhenOpened() {
+        Client client = withDirectory();
+        client.done(Message.read(2, 0, 31));
+        client.done(Message.close(2));
+        client.done(Message.walk(1, 2, "d"));
+        client.done(Message.open(2, 0));
+        client.error(Message.read(2, 31, 31), 'f');
+        client.reply(Message.read(2, 0, 31), told(31).stat(false, 0, 2, 6, 0, "ab"));
+    }
+
+    private static void listingAll() {
+        Client client = Client.attached();
+        for (int i = 1; i < 40; i++) {
+            client.feed(Message.walk(1, 2), Message.create(2, "" + (char) ('a' + i % 26) + (i < 26
+                    ? "" : "z"), 7, 0), Message.close(2));
+            client.yard().serve();
+            client.yard().serve();
+            client.yard().serve();
+            client.yard().drop(9 + 24 + 7);
+        }
+        client.done(Message.open(1, 0));
+        int sum = 0;
+        for (int reads = 0; reads < 10; reads++) {
+            client.feed(Message.read(1, sum, 149));
+            Check.same("read", client.yard().serve(), 117);
+            sum += client.yard().out(7);
+            Check.is("drop", client.yard().drop(11 + client.yard().out(7)));
+        }
+        Check.same("bytes of all stats", sum, 29 + 25 * 30 + 14 * 31);
+        client.reply(Message.read(1, sum, 149), told(0));
     }
 }

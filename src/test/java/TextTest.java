@@ -35,6 +35,7 @@ public final class TextTest {
             long word = Client.word("b" + (char) letter) | -1L << 16;
             if (!due) {
                 Check.is("type of letter " + letter, !yard.type(word, 2));
+                Check.is("type of letter " + letter, !new MountYard().type(letter, 1));
             }
         }
         Check.same("look, nothing was typed", yard.look(0), 0);

@@ -9,13 +9,14 @@ public final class WalkTest {
         Check.end();
     }
 
-    /** Root 0, directory d 1, plain d/f 2, directory d/e 3, directory shut 4 with no right to go. */
+    /** Root 0, directory d 1, d/f plain 2, directory d/e 3, directory shut 4 with x 5 shut in. */
     private static Client tree() {
         Client client = Client.attached();
         client.make("d", Client.DIR);
         client.make("f", 6, "d");
         client.make("e", Client.DIR, "d");
         client.make("shut", Message.DIRECTORY + 6);
+        client.make("x", 7, "shut");
         return client;
     }
 
@@ -37,14 +38,14 @@ public final class WalkTest {
 
     private static void walkEndsAtAnError() {
         Client client = tree();
-        for (String name : new String[] {"x", "dd", "", ".", "...", "D", "ddddd", "d\0", "d/f"}) {
+        for (String name : new String[] {"x", "dd", "", ".", "...", "D", ".d", "d.", "d\0", "ddddd", "d/f"}) {
             client.error(Message.walk(1, 2, name, "d"), 'n');
         }
         client.reply(Message.walk(1, 2, "d", "x", "d"),
                 new Message().number(1, 2).qid(true, 2, 1));
         Check.same("handles", client.yard().handles(), 1);
         client.reply(Message.walk(1, 2, "shut", "x"),
-                new Message().number(1, 2).qid(true, 0, 4));
+                new Message().number(1, 2).qid(true, 1, 4));
         client.done(Message.walk(1, 2, "shut"));
         client.error(Message.walk(2, 3, "x"), 'm');
         client.done(Message.walk(2, 3, ".."));
