@@ -287,8 +287,8 @@ public final class MountYard {
         /** Bytes that are not there count as 0: a frame too short is seen by its end alone. */
         long number(int from, int bytes) {
             long value = 0;
-            for (int i = bytes - 1; i >= 0; i--) {
-                value = value << 8 | at(from + i);
+            for (int i = 0; i < bytes && from + i < used; i++) {
+                value |= (long) cells[from + i] << 8 * i;
             }
             return value;
         }
@@ -693,10 +693,9 @@ public final class MountYard {
                 return FINE;
             }
             Handle handle = handles.find(handleAt(BODY));
-            return handle == null ? BAD_HANDLE : performWith(handle, kind);
-        }
-
-        private int performWith(Handle handle, int kind) {
+            if (handle == null) {
+                return BAD_HANDLE;
+            }
             switch (kind) {
                 case WALK:
                     return walk(handle);
@@ -806,24 +805,11 @@ public final class MountYard {
         }
 
         private int walk(Handle handle) {
-            if (handle.openFor != 0) {
-                return OPEN_WRONG;
-            }
             int number = handleAt(BODY + 4);
-            boolean another = number != handle.number;
-            if (another && handles.mayNotBeNew(number)) {
-                return BAD_HANDLE;
+            int error = walkError(handle, number);
+            if (error != FINE) {
+                return error;
             }
-            if (another && handles.areFull()) {
-                return OVER_LIMIT;
-            }
-            if (handle.file.gone) {
-                return FILE_GONE;
-            }
-            return walkOn(handle, number);
-        }
-
-        private int walkOn(Handle handle, int number) {
             int steps = (int) ask.number(BODY + 8, 2);
             reply.putNumber(0, 2);
             FileNode at = handle.file;
@@ -844,6 +830,20 @@ public final class MountYard {
                 handles.make(number, at);
             }
             return FINE;
+        }
+
+        private int walkError(Handle handle, int number) {
+            boolean another = number != handle.number;
+            if (handle.openFor != 0) {
+                return OPEN_WRONG;
+            }
+            if (another && handles.mayNotBeNew(number)) {
+                return BAD_HANDLE;
+            }
+            if (another && handles.areFull()) {
+                return OVER_LIMIT;
+            }
+            return handle.file.gone ? FILE_GONE : FINE;
         }
 
         private boolean isUp(int place) {

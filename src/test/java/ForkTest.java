@@ -50,6 +50,14 @@ public final class ForkTest {
         client.text("b");
         Check.same("unbind", client.yard().unbind(1), 1);
         client.membersOf("b", 0, 3, 1, 2);
+        bind(client, "a c", 0, 2);
+        bind(client, "a /", 0, 2);
+        bind(client, "a a", 0, 2);
+        Check.is("fork of a full table", client.yard().fork(0, 2, false));
+        client.membersOf("a", 2, 1, 1);
+        client.membersOf("b", 2, 3, 1, 2);
+        client.membersOf("c", 2, 1, 3);
+        client.membersOf("/", 2, 1, 0);
     }
 
     private static void shares() {
