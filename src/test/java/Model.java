@@ -133,7 +133,8 @@ final class Model {
             type = 107;
             reply = new Message().string("" + e.letter);
         }
-        Message whole = new Message().number(7 + reply.body().length, 4).number(type, 1).number(tag, 2);
+        Message whole =
+                new Message().number(7 + reply.body().length, 4).number(type, 1).number(tag, 2);
         for (byte[] part : new byte[][] {whole.body(), reply.body()}) {
             for (byte one : part) {
                 out.add(one & 255);

@@ -131,7 +131,8 @@ public final class OpenCreateTest {
         client.done(Message.walk(1, 2));
         client.error(Message.create(2, "", 7, 3), 'm');
         client.error(Message.create(2, "x", 7, 19), 'm');
-        for (String name : new String[] {"", "abcde", "A", "a.", "..", ".", "a1", "a\0", "{", "`"}) {
+        String[] noNames = {"", "abcde", "A", "a.", "..", ".", "a1", "a\0", "{", "`"};
+        for (String name : noNames) {
             client.error(Message.create(2, name, 7, 0), 'n');
         }
         client.error(Message.create(2, "", Client.DIR, 1), 'n');

@@ -142,7 +142,8 @@ public final class RandomRunsTest {
         switch (random.nextInt(24)) {
             case 0:
                 return random.nextInt(8) != 0 ? Message.attach(handle)
-                        : Message.begin(50 + random.nextInt(150), random.nextInt(4) == 0 ? "9P" : "9P2000.x");
+                        : Message.begin(50 + random.nextInt(150),
+                                random.nextInt(4) == 0 ? "9P" : "9P2000.x");
             case 1:
                 return Message.attach(handle);
             case 2:

@@ -67,25 +67,25 @@ public final class TextTest {
 
     private static void paths() {
         Client client = tree();
-        String[] found = {"", "/", "//", ".", "..", "../..", "/b/..", "b", "/b", "b/", "//b//", "./b",
-            "../b", "b/.", "x/../b", "x y", "b/f", "b//f", "b/./f", "b/abcd", "b/abcd/f",
-            "b/abcd/../f", "b/abcd/x/../../f", "b/x/y/../../f", "a.b/../b", ".../../b", "b/f/../f",
-            "toolong/../b", "b/../../../b/f"};
-        int[] due = {0, 0, 0, 0, 0, 0, 0, 1, 1, 1, 1, 1, 1, 1, 1, -1, 2, 2, 2, 3, 4, 2, 2, 2, 1, 1, 2,
-            1, 2};
-        for (int i = 0; i < found.length; i++) {
-            client.text(found[i]);
-            if (due[i] < 0) {
-                nothingAt(client, found[i]);
-            } else {
-                Check.same("look at " + found[i], client.yard().look(i % 4), due[i]);
-                client.members(i % 4, due[i]);
-            }
-        }
-        for (String path : new String[] {"x", "f", "b/b", "b/f/f", "b/f/x", "...", "b/...", "b.",
+        lead(client, 0, "", "/", "//", ".", "..", "../..", "/b/..");
+        lead(client, 1, "b", "/b", "b/", "//b//", "./b", "../b", "b/.", "x/../b", "a.b/../b",
+                ".../../b", "toolong/../b");
+        lead(client, 2, "b/f", "b//f", "b/./f", "b/abcd/../f", "b/abcd/x/../../f",
+                "b/x/y/../../f", "b/f/../f", "b/../../../b/f");
+        lead(client, 3, "b/abcd");
+        lead(client, 4, "b/abcd/f");
+        for (String path : new String[] {"x", "x y", "f", "b/b", "b/f/f", "b/f/x", "...", "b/...", "b.",
             ".b", "b/abc", "b/abcde", "bb", "b/ff", "a.b"}) {
             client.text(path);
             nothingAt(client, path);
+        }
+    }
+
+    private static void lead(Client client, int due, String... paths) {
+        for (String path : paths) {
+            client.text(path);
+            Check.same("look at " + path, client.yard().look(due % 4), due);
+            client.members(due % 4, due);
         }
     }
 

@@ -38,7 +38,8 @@ public final class WalkTest {
 
     private static void walkEndsAtAnError() {
         Client client = tree();
-        for (String name : new String[] {"x", "dd", "", ".", "...", "D", ".d", "d.", "d\0", "ddddd", "d/f"}) {
+        String[] missing = {"x", "dd", "", ".", "...", "D", ".d", "d.", "d\0", "ddddd", "d/f"};
+        for (String name : missing) {
             client.error(Message.walk(1, 2, name, "d"), 'n');
         }
         client.reply(Message.walk(1, 2, "d", "x", "d"),
