@@ -74,7 +74,8 @@ public final class TextTest {
                 "b/x/y/../../f", "b/f/../f", "b/../../../b/f");
         lead(client, 3, "b/abcd");
         lead(client, 4, "b/abcd/f");
-        for (String path : new String[] {"x", "x y", "f", "b/b", "b/f/f", "b/f/x", "...", "b/...", "b.",
+        for (String path : new String[] {"x", "x y", "f", "b/b", "b/f/f", "b/f/x", "...",
+            "b/...", "b.",
             ".b", "b/abc", "b/abcde", "bb", "b/ff", "a.b"}) {
             client.text(path);
             nothingAt(client, path);
