@@ -103,7 +103,7 @@ public final class BindTest {
 
     private static void bindRefuses() {
         Client client = tree();
-        MountYard yard = client.yard();
+        Yard yard = client.yard();
         client.text("nox noy");
         for (int process : new int[] {-1, 4, Integer.MAX_VALUE, Integer.MIN_VALUE}) {
             Check.throwing("bind", IllegalArgumentException.class, () -> yard.bind(process, 0));
@@ -206,7 +206,7 @@ public final class BindTest {
 
     private static void unbind() {
         Client client = tree();
-        MountYard yard = client.yard();
+        Yard yard = client.yard();
         bind(client, "a b", 0, 1);
         bind(client, "a c", 0, 1);
         bind(client, "f f", 0, 1);

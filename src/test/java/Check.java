@@ -1,11 +1,23 @@
 /** Counts and prints what is not as due; a test ends with exit code 1 if there was anything. */
 final class Check {
     private static int wrong = 0;
+    private static String sentence = "";
 
     private Check() {}
 
     interface Call {
         void run();
+    }
+
+    /** The test of one sentence of the document; what fails in it is told under that sentence. */
+    static void sentence(String words, Call test) {
+        sentence = words;
+        try {
+            test.run();
+        } catch (RuntimeException | StackOverflowError e) {
+            fail("the test was ended by " + e);
+        }
+        sentence = "";
     }
 
     static void same(String what, long got, long due) {
@@ -40,7 +52,7 @@ final class Check {
 
     static void fail(String text) {
         wrong++;
-        System.out.println(text);
+        System.out.println((sentence.isEmpty() ? "" : "\"" + sentence + "\": ") + text);
     }
 
     static void end() {

@@ -1,38 +1,58 @@
 import java.io.ByteArrayOutputStream;
+import java.util.ArrayList;
 import java.util.Arrays;
+import java.util.List;
+import java.util.function.Consumer;
+import java.util.function.Predicate;
 
-/** Talks to one object by frames, and sees to it that no test rests on more than 512 calls. */
+/** Talks to one object by frames. */
 final class Client {
-    private static final int MOST_CALLS = 512;
     static final long DIR = Message.DIRECTORY + 7;
 
-    private final MountYard yard = new MountYard();
-    private int calls = 0;
+    private final Yard yard;
+    private Probe known;
+
+    Client() {
+        this(new Yard());
+    }
+
+    private Client(Yard yard) {
+        this.yard = yard;
+    }
 
     /** An object whose talk is begun, with handle 1 at the root. */
     static Client attached() {
+        return attached(160);
+    }
+
+    static Client attached(int most) {
         Client made = new Client();
-        made.done(Message.begin(160, "9P2000"));
+        made.done(Message.begin(most, "9P2000"));
         made.done(Message.attach(1));
         return made;
     }
 
-    MountYard yard() {
-        calls++;
-        if (calls == MOST_CALLS + 1) {
-            Check.fail("a test made more than 512 calls on one object");
-        }
+    /** A new object in the same state: what a test tries on it this one does not see. */
+    Client again() {
+        return new Client(Yard.after(yard.history()));
+    }
+
+    Yard yard() {
         return yard;
     }
 
     void feed(byte[] bytes) {
+        feed(yard, bytes);
+    }
+
+    static void feed(Yard yard, byte[] bytes) {
         for (int from = 0; from < bytes.length; from += 8) {
             int count = Math.min(8, bytes.length - from);
             long word = 0;
             for (int i = 0; i < count; i++) {
                 word |= (bytes[from + i] & 255L) << 8 * i;
             }
-            yard().feed(word, count);
+            yard.feed(word, count);
         }
     }
 
@@ -47,37 +67,44 @@ final class Client {
 
     private int serve(Message message) {
         feed(message.frame());
-        return yard().serve();
+        return yard.serve();
     }
 
     private byte[] takeReply() {
-        byte[] reply = new byte[yard().size(true)];
+        byte[] reply = new byte[yard.size(true)];
         for (int i = 0; i < reply.length; i++) {
-            reply[i] = (byte) yard().out(i);
+            reply[i] = (byte) yard.out(i);
         }
-        Check.is("drop of all", yard().drop(reply.length));
+        Check.is("drop of all", yard.drop(reply.length));
         return reply;
     }
 
-    /** The message is done; what the reply holds is not looked at, for that costs many calls. */
-    void done(Message message) {
-        int type = message.frame()[4] & 255;
-        Check.same("reply to " + hex(message.frame()), serve(message), type + 1);
-        Check.is("drop of all", yard().drop(yard().size(true)));
+    private static int typeOf(Message message) {
+        return message.frame()[4] & 255;
+    }
+
+    /** The messages are done; what the replies hold is not looked at, for that costs many calls. */
+    void done(Message... messages) {
+        feed(messages);
+        for (Message message : messages) {
+            Check.same("reply to " + hex(message.frame()), yard.serve(), typeOf(message) + 1);
+        }
+        Check.is("drop of all", yard.drop(yard.size(true)));
     }
 
     /** The message is done, and the reply is this body with the frame's own type and tag. */
     void reply(Message message, Message due) {
-        byte[] asked = message.frame();
-        byte[] whole = dueFrame(asked, (asked[4] & 255) + 1, due);
-        Check.same("reply to " + hex(asked), serve(message), (asked[4] & 255) + 1);
-        Check.same("reply to " + hex(asked), hex(takeReply()), hex(whole));
+        expect(message, typeOf(message) + 1, due);
     }
 
     void error(Message message, char letter) {
+        expect(message, 107, new Message().string(String.valueOf(letter)));
+    }
+
+    private void expect(Message message, int type, Message due) {
         byte[] asked = message.frame();
-        byte[] whole = dueFrame(asked, 107, new Message().string(String.valueOf(letter)));
-        Check.same("reply to " + hex(asked), serve(message), 107);
+        byte[] whole = dueFrame(asked, type, due);
+        Check.same("reply to " + hex(asked), serve(message), type);
         Check.same("reply to " + hex(asked), hex(takeReply()), hex(whole));
     }
 
@@ -91,23 +118,77 @@ final class Client {
         return whole;
     }
 
+    /** The message is answered by this error, and all is as it was before. */
+    void refused(Message message, char letter) {
+        Client tried = again();
+        tried.error(message, letter);
+        asBefore("the error " + letter + " to " + hex(message.frame()), tried);
+    }
+
+    /** The call throws this exception, and all is as it was before. */
+    void refused(String what, Class<?> due, Consumer<Yard> call) {
+        Client tried = again();
+        Check.throwing(what, due, () -> call.accept(tried.yard));
+        asBefore(what, tried);
+    }
+
+    /** The call answers false, and all is as it was before. */
+    void refused(String what, Predicate<Yard> call) {
+        Client tried = again();
+        Check.is(what + " answers false", !call.test(tried.yard));
+        asBefore(what, tried);
+    }
+
+    private void asBefore(String what, Client tried) {
+        if (known == null || known.calls() != yard.calls()) {
+            known = new Probe(yard.history());
+        }
+        known.compare(what, tried.yard.history());
+    }
+
+    /** This object and another one can't be told apart by what they answer from now on. */
+    void like(String what, Client other) {
+        new Probe(yard.history()).compare(what, other.yard.history());
+    }
+
     /** Makes a file in the directory to which the names lead, by way of handle 99. */
     void make(String name, long mode, String... names) {
-        done(Message.walk(1, 99, names));
-        done(Message.create(99, name, mode, 0));
-        done(Message.close(99));
+        done(Message.walk(1, 99, names), Message.create(99, name, mode, 0), Message.close(99));
+    }
+
+    /**
+     * So many files, all but the root plain files in it with names of two letters, the last of 40
+     * bn; handle 1 is at the root. A new begin closes seven handles at once, which saves calls.
+     */
+    static Client withFiles(int files) {
+        Client made = attached();
+        for (int first = 1; first < files; first += 7) {
+            List<Message> batch = new ArrayList<>();
+            for (int i = first; i < files && i < first + 7; i++) {
+                String name = "" + (char) ('a' + i / 26) + (char) ('a' + i % 26);
+                batch.add(Message.walk(1, 100 + i));
+                batch.add(Message.create(100 + i, name, 7, 0));
+            }
+            batch.add(Message.begin(160, "9P2000"));
+            made.done(batch.toArray(new Message[0]));
+            made.done(Message.attach(1));
+        }
+        return made;
     }
 
     void remove(String... names) {
-        done(Message.walk(1, 99, names));
-        done(Message.remove(99));
+        done(Message.walk(1, 99, names), Message.remove(99));
     }
 
     void text(String text) {
-        yard().clear();
+        yard.clear();
+        type(text);
+    }
+
+    void type(String text) {
         for (int from = 0; from < text.length(); from += 8) {
             String part = text.substring(from, Math.min(text.length(), from + 8));
-            Check.is("type of " + part, yard().type(word(part), part.length()));
+            Check.is("type of " + part, yard.type(word(part), part.length()));
         }
     }
 
@@ -121,31 +202,42 @@ final class Client {
 
     void about(int file, int... parts) {
         for (int part = 0; part < parts.length; part++) {
-            Check.same("about(" + file + ", " + part + ")", yard().about(file, part), parts[part]);
+            Check.same("about(" + file + ", " + part + ")", yard.about(file, part), parts[part]);
         }
     }
 
     void data(int file, String due) {
         for (int i = 0; i < due.length(); i++) {
-            Check.same("data(" + file + ", " + i + ")", yard().data(file, i), due.charAt(i));
+            Check.same("data(" + file + ", " + i + ")", yard.data(file, i), due.charAt(i));
         }
         Check.throwing("data(" + file + ", " + due.length() + ")", IndexOutOfBoundsException.class,
-                () -> yard().data(file, due.length()));
+                () -> yard.data(file, due.length()));
     }
 
     /** All files of the list to which the text's path A leads. */
     void members(int process, int... due) {
         for (int k = 0; k < due.length; k++) {
-            Check.same("member(" + process + ", " + k + ")", yard().member(process, k), due[k]);
+            Check.same("member(" + process + ", " + k + ")", yard.member(process, k), due[k]);
         }
         Check.throwing("member(" + process + ", " + due.length + ")",
-                IndexOutOfBoundsException.class, () -> yard().member(process, due.length));
+                IndexOutOfBoundsException.class, () -> yard.member(process, due.length));
     }
 
     void membersOf(String path, int process, int... due) {
         text(path);
         members(process, due);
     }
+
+    void bind(String text, int process, int how, int due) {
+        text(text);
+        Check.same("bind of " + text, yard.bind(process, how), due);
+    }
+
+    void unbind(String path, int process, int due) {
+        text(path);
+        Check.same("unbind of " + path, yard.unbind(process), due);
+    }
+
 
     private static String hex(byte[] bytes) {
         StringBuilder made = new StringBuilder();

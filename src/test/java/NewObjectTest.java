@@ -4,7 +4,7 @@ import java.util.NoSuchElementException;
 public final class NewObjectTest {
     public static void main(String[] args) {
         Client client = new Client();
-        MountYard yard = client.yard();
+        Yard yard = client.yard();
         Check.same("files", yard.files(), 1);
         Check.same("handles", yard.handles(), 0);
         Check.same("size of IN", yard.size(false), 0);

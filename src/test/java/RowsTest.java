@@ -15,7 +15,7 @@ public final class RowsTest {
     }
 
     private static void feedCountsBytes() {
-        MountYard yard = new MountYard();
+        Yard yard = new Yard();
         for (int n : new int[] {0, 9, -1, Integer.MAX_VALUE, Integer.MIN_VALUE}) {
             Check.throwing("feed " + n, IllegalArgumentException.class, () -> yard.feed(1, n));
         }
@@ -39,7 +39,7 @@ public final class RowsTest {
     }
 
     private static void feedKeepsOrder() {
-        MountYard yard = new MountYard();
+        Yard yard = new Yard();
         yard.feed(0xffffffffffffff07L, 1);
         yard.feed(0, 3);
         yard.feed(0xfffffffffffa9963L, 3);
@@ -51,7 +51,7 @@ public final class RowsTest {
     }
 
     private static void serveWaitsForTheFrame() {
-        MountYard yard = new MountYard();
+        Yard yard = new Yard();
         yard.feed(9, 3);
         Check.throwing("serve of 3 bytes", NoSuchElementException.class, yard::serve);
         yard.feed(0, 1);
@@ -81,17 +81,17 @@ public final class RowsTest {
     private static void serveBreaks() {
         long[] sizes = {0, 6, 161, 1L << 31, 4294967295L, 263};
         for (long size : sizes) {
-            MountYard yard = new MountYard();
+            Yard yard = new Yard();
             yard.feed(size, 4);
             yard.feed(1, 3);
             Check.same("serve of size " + size, yard.serve(), 0);
             Check.same("size", yard.size(false), 0);
             Check.same("size of OUT", yard.size(true), 0);
         }
-        MountYard least = new MountYard();
+        Yard least = new Yard();
         least.feed(7, 7);
         Check.same("serve of size 7", least.serve(), 107);
-        MountYard most = new MountYard();
+        Yard most = new Yard();
         most.feed(160, 4);
         Check.throwing("serve of size 160", NoSuchElementException.class, most::serve);
         for (int i = 0; i < 19; i++) {
@@ -123,7 +123,7 @@ public final class RowsTest {
     }
 
     private static void serveNeedsRoomInOut() {
-        MountYard yard = new MountYard();
+        Yard yard = new Yard();
         for (int i = 0; i < 24; i++) {
             yard.feed(7, 7);
             Check.same("serve", yard.serve(), 107);
@@ -144,7 +144,7 @@ public final class RowsTest {
 
     private static void outAndDrop() {
         Client client = new Client();
-        MountYard yard = client.yard();
+        Yard yard = client.yard();
         Check.throwing("out of none", IndexOutOfBoundsException.class, () -> yard.out(0));
         Check.is("drop of none", yard.drop(0));
         Check.is("drop of what is not", !yard.drop(1));

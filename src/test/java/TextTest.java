@@ -25,7 +25,7 @@ public final class TextTest {
     }
 
     private static void typeRefuses() {
-        MountYard yard = tree().yard();
+        Yard yard = tree().yard();
         for (int n : new int[] {0, -1, 9, Integer.MAX_VALUE, Integer.MIN_VALUE}) {
             Check.is("type " + n, !yard.type(Client.word("bbbbbbbb"), n));
         }
@@ -50,7 +50,7 @@ public final class TextTest {
 
     private static void typeFillsTheText() {
         Client client = tree();
-        MountYard yard = client.yard();
+        Yard yard = client.yard();
         client.text("////////////////////////////////////////////////////b");
         Check.is("type over 60", !yard.type(Client.word("////////"), 8));
         Check.same("look", yard.look(0), 1);
@@ -91,7 +91,7 @@ public final class TextTest {
     }
 
     private static void nothingAt(Client client, String path) {
-        MountYard yard = client.yard();
+        Yard yard = client.yard();
         Check.throwing("look at " + path, NoSuchElementException.class, () -> yard.look(0));
         Check.throwing("member at " + path, NoSuchElementException.class, () -> yard.member(0, 0));
         Check.throwing("member at " + path, NoSuchElementException.class, () -> yard.member(0, -1));
@@ -112,7 +112,7 @@ public final class TextTest {
 
     private static void lookAndMemberRefuse() {
         Client client = tree();
-        MountYard yard = client.yard();
+        Yard yard = client.yard();
         client.text("x");
         for (int process : new int[] {-1, 4, Integer.MAX_VALUE, Integer.MIN_VALUE}) {
             Check.throwing("look", IllegalArgumentException.class, () -> yard.look(process));
