@@ -10,6 +10,7 @@ public final class PathEdgeTest {
         Check.sentence("there is a list of files, U(root) at first", PathEdgeTest::rootAtFirst);
         Check.sentence("among the directories of the list, in order, the first one with a child of"
                 + " this name", PathEdgeTest::firstWithAChild);
+        Check.sentence("the list becomes U of it", PathEdgeTest::listOfTheChild);
         Check.sentence("the child is the LAST one come to (the root, if no piece is left)",
                 PathEdgeTest::lastComeTo);
         Check.sentence("when there is none, nothing is found.", PathEdgeTest::nothingFound);
@@ -147,6 +148,31 @@ public final class PathEdgeTest {
         plain.membersOf("g", 0, 4);
         plain.text("g/x");
         plain.refused("look", NoSuchElementException.class, yard -> yard.look(0));
+    }
+
+    private static void listOfTheChild() {
+        Client client = Client.attached();
+        client.make("a", Client.DIR);
+        client.make("d", Client.DIR, "a");
+        client.make("b", Client.DIR);
+        client.make("x", 7, "b");
+        client.make("x", 7, "a", "d");
+        client.membersOf("a/d/x", 0, 5);
+        client.bind("b a/d", 0, 1, 2);
+        client.membersOf("a/d", 0, 3, 2);
+        client.membersOf("a/d/x", 0, 4);
+        client.membersOf("a/d/x", 1, 5);
+        client.remove("b", "x");
+        client.membersOf("a/d/x", 0, 5);
+        client.bind("b a/d", 0, 0, 1);
+        client.remove("b");
+        client.membersOf("a/d", 0);
+        client.text("a/d/x");
+        client.refused("look behind an empty list", NoSuchElementException.class,
+                yard -> yard.look(0));
+        client.refused("member behind an empty list", NoSuchElementException.class,
+                yard -> yard.member(0, 0));
+        client.membersOf("a/d/x", 1, 5);
     }
 
     private static void lastComeTo() {

@@ -35,6 +35,13 @@ public final class RandomRunsTest {
             send(Message.begin(most, "9P2000").frame());
             send(Message.attach(1).frame());
         }
+        switch (run % 8) {
+            case 4 -> nearlyAllFiles();
+            case 5 -> nearlyAllHandles();
+            case 6 -> nearlyFullRows();
+            case 7 -> nearlyFullTables();
+            default -> { }
+        }
         while (calls < CALLS) {
             int kind = random.nextInt(20);
             if (kind < 12) {
@@ -51,6 +58,62 @@ public final class RandomRunsTest {
                 observe();
             }
         }
+    }
+
+    /** The runs that begin near a limit are soon at it and behind it. */
+    private void nearlyAllFiles() {
+        int files = 36 + random.nextInt(5);
+        for (int i = 1; i < files; i++) {
+            String name = i < 3 ? NAMES[i] : "y" + (char) ('a' + i / 26) + (char) ('a' + i % 26);
+            feedAll(Message.walk(1, 50 + i), Message.create(50 + i, name, 7, 0));
+            if (i % 7 == 0 || i == files - 1) {
+                feedAll(Message.begin(160, "9P2000"), Message.attach(1));
+                drop(model.size(true));
+            }
+        }
+    }
+
+    private void feedAll(Message... messages) {
+        for (Message message : messages) {
+            feedFrame(message.frame());
+            both("serve()", yard::serve, model::serve);
+        }
+    }
+
+    private void nearlyAllHandles() {
+        for (int i = 2 + random.nextInt(2); i < 9; i++) {
+            feedAll(random.nextBoolean() ? Message.attach(i) : Message.walk(1, i));
+        }
+        drop(model.size(true));
+    }
+
+    private void nearlyFullRows() {
+        for (int i = 0; i < 21 + random.nextInt(3); i++) {
+            feedAll(Message.of(random.nextInt(100)));
+        }
+        for (int i = 0; i < 5 + random.nextInt(3); i++) {
+            type(Client.word("a/../b/."), 8);
+        }
+        for (int i = 0; i < 36 + random.nextInt(5); i++) {
+            feed(7 + (random.nextInt(3) == 0 ? 1 : 0), random.nextInt(8) == 0 ? 8 : 7);
+        }
+    }
+
+    private void nearlyFullTables() {
+        for (int i = 0; i < 5; i++) {
+            feedAll(Message.walk(1, 9), Message.create(9, NAMES[i], Client.DIR, 0),
+                    Message.close(9));
+        }
+        drop(model.size(true));
+        int keys = 3 + random.nextInt(2);
+        for (int i = 0; i < keys; i++) {
+            clear();
+            String words = NAMES[random.nextInt(5)] + " " + NAMES[i];
+            type(Client.word(words), words.length());
+            bind(0, random.nextInt(3));
+            bind(0, random.nextInt(3));
+        }
+        fork(0, 1, random.nextBoolean());
     }
 
     /** Both answer, or throw just the same. */
@@ -80,7 +143,7 @@ public final class RandomRunsTest {
         });
     }
 
-    private void send(byte[] frame) {
+    private void feedFrame(byte[] frame) {
         for (int from = 0; from < frame.length; from += 8) {
             int count = Math.min(8, frame.length - from);
             long word = random.nextLong() << 1;
@@ -90,6 +153,10 @@ public final class RandomRunsTest {
             }
             feed(word, count);
         }
+    }
+
+    private void send(byte[] frame) {
+        feedFrame(frame);
         both("serve()", yard::serve, model::serve);
         if (random.nextInt(3) != 0) {
             look();
@@ -174,18 +241,22 @@ public final class RandomRunsTest {
 
     private void text() {
         if (random.nextInt(3) != 0) {
-            both("clear()", () -> {
-                yard.clear();
-                return 0;
-            }, () -> {
-                model.clear();
-                return 0;
-            });
+            clear();
         }
         for (int i = random.nextInt(6); i >= 0; i--) {
             String part = TEXTS[random.nextInt(TEXTS.length)];
             type(Client.word(part), part.length());
         }
+    }
+
+    private void clear() {
+        both("clear()", () -> {
+            yard.clear();
+            return 0;
+        }, () -> {
+            model.clear();
+            return 0;
+        });
     }
 
     private void type(long w, int n) {
@@ -197,7 +268,7 @@ public final class RandomRunsTest {
         text();
         int process = random.nextInt(30) == 0 ? random.nextInt(7) - 1 : random.nextInt(2);
         int how = random.nextInt(30) == 0 ? random.nextInt(7) - 1 : random.nextInt(3);
-        both("bind", () -> yard.bind(process, how), () -> model.bind(process, how));
+        bind(process, how);
         both("look", () -> yard.look(process), () -> model.look(process));
         int k = random.nextInt(6) - 1;
         both("member", () -> yard.member(process, k), () -> model.member(process, k));
@@ -205,11 +276,17 @@ public final class RandomRunsTest {
             both("unbind", () -> yard.unbind(process), () -> model.unbind(process));
         }
         if (random.nextInt(4) == 0) {
-            int to = random.nextInt(6) - 1;
-            boolean share = random.nextBoolean();
-            both("fork", () -> yard.fork(process, to, share) ? 1 : 0,
-                    () -> model.fork(process, to, share) ? 1 : 0);
+            fork(process, random.nextInt(6) - 1, random.nextBoolean());
         }
+    }
+
+    private void bind(int process, int how) {
+        both("bind", () -> yard.bind(process, how), () -> model.bind(process, how));
+    }
+
+    private void fork(int from, int to, boolean share) {
+        both("fork", () -> yard.fork(from, to, share) ? 1 : 0,
+                () -> model.fork(from, to, share) ? 1 : 0);
     }
 
     private int odd() {

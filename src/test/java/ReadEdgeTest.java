@@ -21,6 +21,8 @@ public final class ReadEdgeTest {
                 ReadEdgeTest::behindTheLastTold);
         Check.sentence("the stats of children, by their numbers, as many as have room in c.",
                 ReadEdgeTest::asManyAsHaveRoom);
+        Check.sentence("the stats of children, by their numbers (all 40 files)",
+                ReadEdgeTest::allFiles);
         Check.sentence("Reply: how many bytes in 4 (the c told), and these.",
                 ReadEdgeTest::replies);
         Check.end();
@@ -185,6 +187,8 @@ public final class ReadEdgeTest {
         client.reply(Message.read(2, 0, 31), ab(told(31)));
         refusedBeside(client, 31);
         client.refused(Message.read(2, 62, 99), 'f');
+        client.error(Message.read(2, 30, 99), 'f');
+        client.error(Message.read(2, 32, 99), 'f');
         client.reply(Message.read(2, 31, 30), c(told(30)));
         refusedBeside(client, 61);
         client.refused(Message.read(2, 31, 99), 'f');
@@ -299,6 +303,25 @@ public final class ReadEdgeTest {
         root.again().reply(Message.read(1, 0, 29), told(29).stat(true, 1, 0, 7, 0, ""));
         root.again().reply(Message.read(1, 0, 59),
                 told(59).stat(true, 1, 0, 7, 0, "").stat(false, 0, 1, 7, 0, "a"));
+    }
+
+    private static void allFiles() {
+        for (int files = 39; files < 41; files++) {
+            Client client = Client.withFiles(files);
+            client.done(Message.open(1, 0));
+            int sum = 0;
+            for (int reads = 0; reads < 10; reads++) {
+                client.feed(Message.read(1, sum, 4294967295L));
+                Check.same("read", client.yard().serve(), 117);
+                int count = client.yard().out(7);
+                Check.same("number of the first told", client.yard().out(18), reads * 4);
+                Check.is("drop", client.yard().drop(11 + count));
+                sum += count;
+            }
+            Check.same("bytes of all stats", sum, 29 + (files - 1) * 31);
+            client.reply(Message.read(1, sum, 149), told(0));
+            client.refused(Message.read(1, sum + 1, 149), 'f');
+        }
     }
 
     private static void replies() {

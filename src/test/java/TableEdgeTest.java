@@ -14,6 +14,8 @@ public final class TableEdgeTest {
                 TableEdgeTest::withoutTheGone);
         Check.sentence("else f alone, if it is not gone (perhaps nothing is left)",
                 TableEdgeTest::alone);
+        Check.sentence("Let a be the list to which path A leads, b the last file come to on path B,"
+                + " both for the process.", TableEdgeTest::listAndLast);
         Check.sentence("how 0: the list of b becomes a; 1: a and behind it U(b); 2: U(b) and behind"
                 + " it a", TableEdgeTest::how);
         Check.sentence("(a file that both have stands in it twice)", TableEdgeTest::twice);
@@ -37,6 +39,7 @@ public final class TableEdgeTest {
         Check.sentence("The process to gets a table: the one that from has, together with it"
                 + " (share)", TableEdgeTest::forkShares);
         Check.sentence("or one of its own, the same for now.", TableEdgeTest::forkCopies);
+        Check.sentence("Two processes may have one table together", TableEdgeTest::whoShares);
         Check.sentence("False when there is no such process, or both are one.",
                 TableEdgeTest::forkRefuses);
         Check.end();
@@ -203,6 +206,29 @@ public final class TableEdgeTest {
         client.membersOf("a", 0, 3);
         client.bind("a d", 0, 0, 1);
         client.membersOf("d", 0, 3);
+    }
+
+    private static void listAndLast() {
+        Client client = tree();
+        client.bind("c a", 1, 1, 2);
+        client.membersOf("a", 1, 3, 1);
+        Client whole = client.again();
+        whole.bind("a b", 1, 0, 2);
+        whole.membersOf("b", 1, 3, 1);
+        whole.membersOf("b", 0, 2);
+        Client other = client.again();
+        other.bind("a b", 0, 0, 1);
+        other.membersOf("b", 0, 1);
+        Client last = client.again();
+        last.bind("d a", 1, 0, 1);
+        last.membersOf("a", 1, 4);
+        last.membersOf("c", 1, 3);
+        Client through = client.again();
+        through.bind("f a/x", 1, 0, 1);
+        through.membersOf("a/x", 1, 6);
+        through.unbind("a", 1, 1);
+        through.membersOf("a/x", 1, 6);
+        through.membersOf("a/x", 0, 8);
     }
 
     private static void how() {
@@ -535,6 +561,42 @@ public final class TableEdgeTest {
         client.bind("d b", 0, 0, 1);
         client.membersOf("b", 3, 2);
         client.membersOf("b", 2, 2);
+    }
+
+    /** Every three forks: who has one table together, and that none has another's. */
+    private static void whoShares() {
+        for (int kinds = 0; kinds < 8 * 12 * 12 * 12; kinds++) {
+            Yard yard = new Yard();
+            int[] tables = {0, 1, 2, 3};
+            int left = kinds / 8;
+            for (int step = 0; step < 3; step++) {
+                int from = left % 12 / 3;
+                int to = (from + 1 + left % 3) % 4;
+                boolean share = (kinds >> step & 1) == 1;
+                left /= 12;
+                Check.is("fork", yard.fork(from, to, share));
+                tables[to] = share ? tables[from] : 4 + step;
+            }
+            for (int binding = 0; binding < 4; binding++) {
+                sharers(yard, tables, binding);
+            }
+        }
+    }
+
+    /** A key made for one process is there for those that have the table together, and no more. */
+    private static void sharers(Yard yard, int[] tables, int binding) {
+        Check.same("bind of the root to itself", yard.bind(binding, 1), 2);
+        for (int process = 0; process < 4; process++) {
+            boolean joined;
+            try {
+                joined = yard.member(process, 1) == 0;
+            } catch (IndexOutOfBoundsException e) {
+                joined = false;
+            }
+            Check.is("process " + process + " has the table of " + binding + " or not",
+                    joined == (tables[process] == tables[binding]));
+        }
+        Check.same("unbind", yard.unbind(binding), 0);
     }
 
     private static void forkRefuses() {

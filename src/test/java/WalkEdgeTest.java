@@ -9,6 +9,8 @@ public final class WalkEdgeTest {
         Check.sentence("l: it is another number, and there are 8", WalkEdgeTest::eightHandles);
         Check.sentence("the errors in the order in which they are looked for (110)",
                 WalkEdgeTest::orderOfErrors);
+        Check.sentence("From where the handle stands it goes on by each string",
+                WalkEdgeTest::fromWhereItStands);
         Check.sentence(".. to the parent (from a plain file, too)", WalkEdgeTest::toTheParent);
         Check.sentence("else d: it is no directory", WalkEdgeTest::noDirectory);
         Check.sentence("m: it may not be gone through", WalkEdgeTest::notGoneThrough);
@@ -149,6 +151,18 @@ public final class WalkEdgeTest {
         gone.done(Message.walk(1, 5), Message.walk(1, 6), Message.walk(1, 7), Message.walk(1, 8));
         gone.refused(Message.walk(2, 9), 'l');
         gone.refused(Message.walk(2, 2), 'g');
+    }
+
+    private static void fromWhereItStands() {
+        Client client = tree();
+        client.done(Message.walk(1, 2, "d"));
+        client.again().reply(Message.walk(2, 3, "e"), walked(2));
+        client.again().reply(Message.walk(2, 3, "e", "g", "x"), walked(2, 3, 6));
+        client.refused(Message.walk(2, 3, "d"), 'n');
+        client.refused(Message.walk(1, 3, "e"), 'n');
+        client.done(Message.walk(2, 2, "e"));
+        client.again().reply(Message.walk(2, 3, "g"), walked(3));
+        client.refused(Message.walk(2, 3, "e"), 'n');
     }
 
     private static void toTheParent() {
