@@ -300,6 +300,9 @@ public final class FrameEdgeTest {
             client.refused(body(type, bytes, bytes.length).number(0, 2), 'f');
         }
         lengthsInBodies(client);
+        for (int most : new int[] {64, 159, 160}) {
+            lengthsAtTheEnd(most);
+        }
     }
 
     /** The lengths that bodies tell of their parts: one less, one more, and far more. */
@@ -320,6 +323,31 @@ public final class FrameEdgeTest {
             client.refused(Message.of(110).number(1, 4).number(2, 4).number(told, 2)
                     .string("..").string(".."), 'f');
         }
+    }
+
+    /** A length of which only one byte, or none, is in the longest frame that there may be. */
+    private static void lengthsAtTheEnd(int most) {
+        Client client = Client.attached(most);
+        int room = most - 7 - 8 - 2;
+        for (int letters = room - 3; letters <= room + 1; letters++) {
+            Message attach = Message.of(104).number(2, 4).number(Message.NO_HANDLE, 4)
+                    .number(letters, 2).letters("u".repeat(Math.min(letters, room)))
+                    .number(0, Math.max(0, room - letters));
+            boolean whole = letters == room - 2;
+            if (whole) {
+                client.again().reply(attach, new Message().qid(true, 0, 0));
+            } else {
+                client.refused(attach, 'f');
+            }
+        }
+        String longest = "u".repeat(most - 7 - 10 - 2 - 1);
+        client.refused(Message.of(110).number(1, 4).number(2, 4).number(2, 2).string(longest)
+                .number(0, 1), 'f');
+        client.refused(Message.of(110).number(1, 4).number(2, 4).number(2, 2)
+                .string(longest + "u"), 'f');
+        client.refused(Message.of(114).number(1, 4).string("u".repeat(most - 7 - 4 - 2)), 'f');
+        client.refused(Message.of(114).number(1, 4).string("u".repeat(most - 7 - 4 - 2 - 1))
+                .number(0, 1), 'f');
     }
 
     private static void tagOfBegin() {

@@ -143,6 +143,11 @@ public final class ReadEdgeTest {
             Check.same("size of OUT", tried.yard().size(true), 11 + due);
             Check.same("bytes told", tried.yard().out(7), due);
         }
+        Message all = told(149).stat(true, 5, 0, 7, 0, "");
+        for (int file = 1; file < 5; file++) {
+            all.stat(false, 0, file, 7, 0, "abcd".substring(file - 1, file));
+        }
+        client.reply(Message.read(1, 0, 149), all);
         Client plain = withFile();
         for (long c : new long[] {24, 25, 149, 150, 2147483648L, 4294967295L}) {
             plain.again().reply(Message.read(2, 0, c), told(24).letters(ALL));
